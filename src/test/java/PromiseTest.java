@@ -516,6 +516,23 @@ public final class PromiseTest {
         turns(forgets, 0, 3);
         due("END", forgets.turn(0), ENDED);
 
+        MutableCells shorter = with(a(BEGIN), a(GET, 1, 5), a(JUMP0, 1, 5), a(GET, 2, 0), a(PUT, 0, 1), a(END));
+        shorter.put(5, 1);
+        turns(shorter, 0, 5);
+        shorter.put(5, 0);
+        due("ANEW", turns(shorter, 0, 1), GOES);
+        shorter.put(0, 9);
+        due("neither what it read nor what it PUT ahead of ANEW tells", turns(shorter, 0, 3), ENDED);
+        due("CELL", shorter.cell(0), 9);
+        due("ANEW", shorter.told(0, ANEWS), 1);
+
+        MutableCells next = with(a(TRY, 5), a(BEGIN), a(GET, 2, 0), a(PUT, 0, 1), a(THROW, 1), a(BEGIN), a(END));
+        turns(next, 0, 5);
+        next.put(0, 9);
+        due("the next ATOM knows nothing of one that failed", turns(next, 0, 2), ENDED);
+        due("CELL", next.cell(0), 9);
+        due("ANEW", next.told(0, ANEWS), 0);
+
         MutableCells other = with(a(BEGIN), a(GET, 1, 5), a(PUT, 2, 1), a(END));
         turns(other, 0, 3);
         other.put(4, 9);
