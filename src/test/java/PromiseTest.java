@@ -1,16 +1,5 @@
 /** One group of checks for each promise of the document, by its number. */
-public final class PromiseTest {
-    private static final int NONE = -1, OUTSIDE = -2, STATE = -3, ROOM = -4;
-    private static final int GOES = 0, ENDED = 1, FAILED = 2;
-    private static final int SET = 0, GET = 1, PUT = 2, ADD = 3, SUB = 4, MUL = 5, DIV = 6, LOAD = 7, STORE = 8;
-    private static final int SWAP = 9, JUMP = 10, JUMP0 = 11, BEGIN = 12, END = 13, TRY = 14, DONE = 15, THROW = 16;
-    private static final int MAKE = 17, FREEZE = 18, LAZY = 19;
-    private static final int IS = 0, PLACE = 1, FAILURE = 2, TRYS = 3, ATOM = 4, TURNS = 5, ANEWS = 6;
-    private static final int MIN = Integer.MIN_VALUE, MAX = Integer.MAX_VALUE;
-
-    private static final Check check = new Check();
-    private static String part = "";
-
+public final class PromiseTest extends Words {
     public static void main(String[] args) {
         promise1();
         promise2Answers();
@@ -39,51 +28,6 @@ public final class PromiseTest {
         promise16();
         constants();
         check.finish();
-    }
-
-    private static void due(String what, long got, long want) {
-        check.due(part + ": " + what, got, want);
-    }
-
-    private static void acts(MutableCells m, int thread, int[]... acts) {
-        for (int[] a : acts) {
-            int got = m.act(thread, a[0], a.length > 1 ? a[1] : 0, a.length > 2 ? a[2] : 0, a.length > 3 ? a[3] : 0);
-            check.holds(part + ": an ACT of KIND " + a[0] + " is taken", got > 0);
-        }
-    }
-
-    private static int[] a(int... numbers) {
-        return numbers;
-    }
-
-    private static MutableCells with(int[]... acts) {
-        MutableCells m = new MutableCells();
-        acts(m, 0, acts);
-        return m;
-    }
-
-    /** So many TURNS of a THREAD; what it is behind the last. */
-    private static int turns(MutableCells m, int thread, int n) {
-        int is = NONE;
-        for (int i = 0; i < n; i++) {
-            is = m.turn(thread);
-        }
-        return is;
-    }
-
-    /** TURNS of THREAD 0 until it GOES no more, 200 at most. */
-    private static int run(MutableCells m) {
-        int is = GOES;
-        for (int i = 0; i < 200 && is == GOES; i++) {
-            is = m.turn(0);
-        }
-        return is;
-    }
-
-    private static void fails(MutableCells m, int failure, int place) {
-        due("FAILED", run(m), FAILED);
-        due("the FAILURE", m.told(0, FAILURE), failure);
-        due("the PLACE of the FAILURE", m.told(0, PLACE), place);
     }
 
     private static void isAsAtFirst(MutableCells m) {
