@@ -7,7 +7,9 @@ import java.nio.file.Files;
 import java.nio.file.Path;
 import java.util.ArrayList;
 import java.util.List;
+import java.util.Map;
 import java.util.Set;
+import java.util.TreeMap;
 import java.util.TreeSet;
 import java.util.regex.Matcher;
 import java.util.regex.Pattern;
@@ -22,7 +24,9 @@ public final class LanguageTest {
     public static void main(String[] args) throws IOException {
         face();
         insideClasses();
-        words(withoutComments(Files.readString(Path.of("src/main/java/MutableCells.java"))));
+        String source = withoutComments(Files.readString(Path.of("src/main/java/MutableCells.java")));
+        words(source);
+        methods(source);
         check.finish();
     }
 
@@ -83,6 +87,7 @@ public final class LanguageTest {
             check.holds("no " + word, !Pattern.compile("\\b" + word + (word.endsWith(")") ? "" : "\\b")).matcher(source).find());
         }
         check.holds("no lambda", !source.contains("->"));
+        check.holds("no texts", !source.contains("\""));
         check.holds("no method reference", !source.contains("::"));
         check.holds("no static block", !Pattern.compile("static\\s*\\{").matcher(source).find());
         Matcher imports = Pattern.compile("import ([\\w.*]+);").matcher(source);
@@ -100,5 +105,47 @@ public final class LanguageTest {
                 check.holds(line.trim(), line.contains("private final ") || line.contains("strands[i] = new Strand(i);"));
             }
         }
+    }
+
+    private static final Pattern HEADER = Pattern.compile("( +)(?:(?:public|private|static|final) )*(?:[\\w\\[\\]]+ )?(\\w+)\\(.*\\) \\{");
+    private static final Set<String> NO_METHODS = Set.of("if", "for", "while", "switch");
+
+    /** Methods by their names; those of one name are taken together, which can only make calls look deeper. */
+    private static void methods(String source) {
+        Map<String, String> bodies = new TreeMap<>();
+        String[] lines = source.split("\n");
+        for (int i = 0; i < lines.length; i++) {
+            Matcher header = HEADER.matcher(lines[i]);
+            if (!header.matches() || NO_METHODS.contains(header.group(2))) {
+                continue;
+            }
+            StringBuilder body = new StringBuilder();
+            int first = i;
+            for (i++; i < lines.length && !lines[i].equals(header.group(1) + "}"); i++) {
+                body.append(lines[i]).append('\n');
+            }
+            check.holds(header.group(2) + " is short: " + (i - first), i - first <= 60);
+            bodies.merge(header.group(2), body.toString(), String::concat);
+        }
+        for (String call : FACE) {
+            String name = call.substring(0, call.indexOf('('));
+            check.holds(name + " was found", bodies.containsKey(name));
+        }
+        for (String name : bodies.keySet()) {
+            int deep = depth(name, bodies, 0);
+            check.holds(name + " calls at most eight deep: " + deep, deep <= 8);
+        }
+    }
+
+    private static int depth(String name, Map<String, String> bodies, int above) {
+        int deepest = 0;
+        Matcher call = Pattern.compile("\\b(\\w+)\\(").matcher(bodies.get(name));
+        // The class has no recursion: what goes on beyond twenty is one, and need not be followed.
+        while (above < 20 && call.find()) {
+            if (bodies.containsKey(call.group(1))) {
+                deepest = Math.max(deepest, depth(call.group(1), bodies, above + 1));
+            }
+        }
+        return deepest + 1;
     }
 }
